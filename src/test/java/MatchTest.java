@@ -31,6 +31,11 @@ public final class MatchTest {
         matchOf(x, 3, 0, 1, 1);
         x = Due.codec("", "abab");
         matchOf(x, 0, 0, 0, -1);
+        x = Due.codec("xya", "a\0\0");
+        matchOf(x, 0, 0, 1, 2);
+        matchOf(x, 1, 0, 0, -1);
+        x = Due.codec("a\0\0", "a");
+        matchOf(x, 0, 0, 1, 0);
         x = new DeltaCodec();
         x.fill(0, 0, 150);
         x.fill(1, 0, 150);
@@ -85,6 +90,8 @@ public final class MatchTest {
         Due.is("a block at the end", 1, Due.codec("ab", "xxxab").blocks(2));
         Due.is("half a block at the end", 0, Due.codec("ab", "xxxa").blocks(2));
         Due.is("blocks of one byte", 3, Due.codec("ab", "xaybza").blocks(1));
+        Due.is("no zeros behind the target", 0, Due.codec("a\0", "a").blocks(2));
+        Due.is("no zeros behind the source", 0, Due.codec("a", "a\0").blocks(2));
         Due.is("no source", 0, Due.codec("", "abc").blocks(1));
         Due.is("no target", 0, Due.codec("abc", "").blocks(1));
         DeltaCodec x = new DeltaCodec();
