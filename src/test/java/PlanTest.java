@@ -52,6 +52,8 @@ public final class PlanTest {
         planOf("abcdef", "abcdefabcdef", 3, 4, "1:6:0@0 1:6:0@6");
         planOf("", "xabcyabcz", 3, 10, "0:9:120@0");
         planOf("", "xabcdyabcd", 3, 9, "0:6:120@0 2:4:1@6");
+        planOf("xabc", "abc\0\0\0", 3, 4, "1:3:1@0 3:3:0@3");
+        planOf("xabc\0\0\0", "abc", 3, 2, "1:3:1@0");
     }
 
     private static void fewestInstructions() {
