@@ -59,9 +59,15 @@ final class Due {
         }
     }
 
+    /** In pieces of eight, because an object is promised for 512 calls alone. */
     static void append(DeltaCodec x, int side, String text) {
-        for (int i = 0; i < text.length(); i++) {
-            x.fill(side, text.charAt(i), 1);
+        for (int from = 0; from < text.length(); from += 8) {
+            int to = Math.min(from + 8, text.length());
+            long bytes = 0;
+            for (int i = from; i < to; i++) {
+                bytes = bytes << 8 | text.charAt(i);
+            }
+            x.feed(side, bytes, to - from);
         }
     }
 
@@ -119,6 +125,22 @@ final class Due {
         for (int i = 0; i < many; i++) {
             text.append(i == 0 ? "" : " ").append(x.kind(i)).append(':').append(x.length(i));
             text.append(':').append(x.operand(i)).append('@').append(x.start(i));
+        }
+        return text.toString();
+    }
+
+    /** All that an object tells of itself, in few calls; the digest stands for strings and codes. */
+    static String state(DeltaCodec x) {
+        StringBuilder text = new StringBuilder("digest ").append(x.digest());
+        text.append(", error at ").append(x.errorPosition());
+        text.append(", differences ").append(x.differences());
+        int made = x.outputSize();
+        for (int place = 0; place < made; place += 1 + made / 8) {
+            text.append(", output ").append(x.output(place));
+        }
+        if (x.hasPlan()) {
+            text.append(", cost ").append(x.cost()).append(", ratio ").append(x.ratio());
+            text.append(", plan ").append(plan(x));
         }
         return text.toString();
     }
