@@ -71,6 +71,12 @@ final class Due {
         }
     }
 
+    static void append(Model y, int side, String text) {
+        for (int i = 0; i < text.length(); i++) {
+            y.fill(side, text.charAt(i), 1);
+        }
+    }
+
     static DeltaCodec codec(String source, String target) {
         DeltaCodec x = new DeltaCodec();
         append(x, 0, source);

@@ -432,6 +432,11 @@ final class Model {
         }
     }
 
+    /** The check of what was made, for a test that writes it. */
+    int checkOfMade() {
+        return checkOf(made);
+    }
+
     private int read() throws Damage {
         if (cursor == code.size() - 2) {
             throw new Damage(1, cursor);

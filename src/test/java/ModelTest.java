@@ -327,16 +327,8 @@ public final class ModelTest {
         }
     }
 
-    /** The made bytes become a target for a while, if they fit, whose check is then written. */
     private void makeCheckRight() {
-        if (y.outputSize() > 150) {
-            return;
-        }
-        DeltaCodec other = new DeltaCodec();
-        for (int i = 0; i < y.outputSize(); i++) {
-            other.fill(1, y.output(i), 1);
-        }
-        int check = other.check(1, 0, other.size(1));
+        int check = y.checkOfMade();
         for (int k = 0; k < 2; k++) {
             int value = k == 0 ? check % 256 : check / 256;
             int position = y.codeSize() - 2 + k;
