@@ -10,6 +10,7 @@ public final class PlanBoundsTest {
         leastFrom1To20();
         leastBindsCopies();
         leastBindsNothingElse();
+        repeatBeginsAhead();
         emptyAndSmallTargets();
         fullStrings();
         lengthsAbout63();
@@ -24,6 +25,7 @@ public final class PlanBoundsTest {
         refusedCallsThatDoNot();
         callsThatLeaveIt();
         planAgain();
+        formerMatchesAreForgotten();
         answersAtTheEnds();
         Due.end();
     }
@@ -84,6 +86,18 @@ public final class PlanBoundsTest {
         planOf("", "aaaaab", 20, 4, "3:5:97@0 0:1:98@5");
         planOf("a", "a", 1, 2, "0:1:97@0");
         planOf("", "aa", 1, 2, "3:2:97@0");
+    }
+
+    /** "p is less than the size of what was made so far": nothing repeats from its own place on. */
+    private static void repeatBeginsAhead() {
+        planOf("abcd", "aaabcd", 2, 4, "3:3:97@0 1:3:1@3");
+        planOf("abcd", "aaaabcd", 3, 4, "3:4:97@0 1:3:1@4");
+        planOf("", "aaaa", 1, 2, "3:4:97@0");
+        planOf("", "xaaaa", 1, 4, "0:1:120@0 3:4:97@1");
+        planOf("", "xxaaaa", 1, 4, "3:2:120@0 3:4:97@2");
+        // Behind the first byte it is told, it can: from the last place of what was made.
+        planOf("", "abababab", 3, 5, "0:2:97@0 2:6:0@2");
+        planOf("abcd", "abcddddd", 3, 4, "1:4:0@0 2:4:3@4");
     }
 
     /** "0 if the target is empty" */
@@ -380,6 +394,35 @@ public final class PlanBoundsTest {
         Due.isText("for a longer source", "1:3:0@0", Due.plan(x));
         x.setLeast(4);
         Due.isText("for another least size", "3:3:0@0", Due.plan(x));
+    }
+
+    /** A plan of the same object that had longer matches, at the ends of the new target. */
+    private static void formerMatchesAreForgotten() {
+        DeltaCodec x = Due.codec("wxab", "ab");
+        x.setLeast(2);
+        Due.isText("ab", "1:2:2@0", Due.plan(x));
+        x.cut(1, 2);
+        Due.append(x, 1, "wx");
+        Due.isText("wx, behind ab", "1:2:0@0", Due.plan(x));
+        Due.is("its cost", 2, x.cost());
+        for (int run : new int[] {7, 10, 62, 63, 150}) {
+            DeltaCodec y = Due.codec("", "a".repeat(run));
+            Due.isText("a run of " + run, "3:" + run + ":97@0", Due.plan(y));
+            y.cut(1, run);
+            Due.append(y, 1, "abcabc");
+            Due.isText("abcabc, behind a run of " + run, "0:3:97@0 2:3:0@3", Due.plan(y));
+            Due.is("its cost, behind a run of " + run, 6, y.cost());
+        }
+        DeltaCodec z = Due.codec(Due.climb(1, 150), Due.climb(1, 150));
+        Due.isText("all of 150", "1:150:0@0", Due.plan(z));
+        z.cut(1, 75);
+        Due.isText("half of it", "1:75:0@0", Due.plan(z));
+        z.cut(0, 76);
+        Due.isText("a shorter source", "1:74:0@0 0:1:75@74", Due.plan(z));
+        z.advance();
+        z.cut(0, 75);
+        Due.append(z, 1, Due.climb(1, 75));
+        Due.isText("no source", "0:75:1@0", Due.plan(z));
     }
 
     /** The first and the last instruction, and each kind. */
